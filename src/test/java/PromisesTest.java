@@ -299,10 +299,7 @@ public final class PromisesTest {
         refused(m, m.bail(2, 1), 6, 0);
         same(4, m.account(10));
         WeatherMinistry light = fresh("6 bail beyond arrears");
-        light.credit(0, 4, 1);
-        buyAll(light, 0, 3);
-        light.month();
-        same("0:1s1r4u1a", town(light, 0));
+        arrearsOfOne(light);
         same(0, light.bail(0, 4));
         same("0:1s1r0u", town(light, 0));
         refused(light, light.bail(0, 9), 5, 0);
@@ -359,6 +356,34 @@ public final class PromisesTest {
         }
         creditsEnd();
         creditsOfOneMonth();
+        oneHourLacks();
+    }
+
+    private static void oneHourLacks() {
+        WeatherMinistry m = fresh("8 one hour lacks");
+        m.credit(0, 3, 1);
+        buyAll(m, 0, 3);
+        m.credit(0, 1, 1);
+        same("0:2s0r5u", town(m, 0));
+        same(2, m.month());
+        same(4, m.account(11));
+        WeatherMinistry one = fresh("8 one hour lacks, of one");
+        one.credit(0, 2, 6);
+        buyAll(one, 0, 3);
+        one.credit(0, 1, 1);
+        one.credit(0, 1, 6);
+        one.repay(2);
+        one.credit(1, 5, 1);
+        one.credit(1, 5, 1);
+        buyAll(one, 1, 3);
+        same(8, one.townOf(1, 0));
+        one.repay(3);
+        same(3, one.townOf(1, 0));
+        one.credit(1, 1, 6);
+        same(1, one.month());
+        same("1:1s0r4u", town(one, 1));
+        same(2, one.account(11));
+        same(1, one.account(10));
     }
 
     private static void creditsEnd() {
@@ -502,6 +527,14 @@ public final class PromisesTest {
         same(1, m.townOf(0, 5));
         same(4, m.townOf(0, 6));
         same(3, m.townOf(2, 5));
+        WeatherMinistry row = fresh("9 townOf in a row of towns");
+        row.treaty(0, 1, true);
+        row.treaty(1, 2, true);
+        row.treaty(2, 3, true);
+        row.treaty(3, 4, true);
+        same(4, row.townOf(4, 6));
+        same(4, row.townOf(0, 6));
+        same(1, row.townOf(4, 5));
     }
 
     private static void creditOf() {
@@ -598,6 +631,7 @@ public final class PromisesTest {
         bothDrizzle(m, 0, 20, new int[] {20, 10, 5, 2, 1});
         bothDrizzle(m, 2, 7, new int[] {1, 3, 7, 3, 1});
         bothDrizzle(m, 4, 1, new int[] {0, 0, 0, 0, 1});
+        bothDrizzle(m, 4, 20, new int[] {1, 2, 5, 10, 20});
         m.treaty(0, 3, true);
         m.treaty(3, 4, false);
         bothDrizzle(m, 0, 15, new int[] {15, 7, 3, 7, 0});
@@ -698,6 +732,50 @@ public final class PromisesTest {
         same(0, poor.most(2, 6));
         same(20, poor.most(1, 1));
         mostBesideOthers();
+        mostOfFew();
+    }
+
+    private static void mostOfFew() {
+        WeatherMinistry m = fresh("18 most, a single hour");
+        m.credit(0, 20, 6);
+        m.credit(0, 20, 6);
+        m.credit(0, 9, 6);
+        same(1, m.most(0, 1));
+        WeatherMinistry even = fresh("18 most, with what is just enough");
+        even.credit(0, 6, 1);
+        buyAll(even, 0, 2);
+        same("0:8s0r4u", town(even, 0));
+        even.credit(0, 2, 1);
+        even.buy(0);
+        same("0:6s0r5u", town(even, 0));
+        // 6 hours and h, of which 8 and h would be due.
+        same(0, even.most(0, 1));
+        even.repay(1);
+        same(0, even.most(0, 1));
+        even.credit(0, 2, 6);
+        // 6 hours and h, of which 6 and h would be due.
+        same(20, even.most(0, 1));
+        WeatherMinistry behind = fresh("18 most behind a credit that can't be paid");
+        behind.credit(0, 20, 1);
+        buyAll(behind, 0, 7);
+        same("0:2s0r9u", town(behind, 0));
+        // Whatever it takes goes for the other credit; the 1 hour of sun of month 1 is left for it.
+        same(1, behind.most(0, 2));
+        same(0, behind.most(0, 1));
+        WeatherMinistry light = fresh("18 most with arrears of 1");
+        arrearsOfOne(light);
+        same(0, light.most(0, 1));
+        refused(light, light.credit(0, 1, 1), 2, 1);
+        light.month();
+        same("0:3s0r3u", town(light, 0));
+        same(20, light.most(0, 1));
+    }
+
+    private static void arrearsOfOne(WeatherMinistry m) {
+        m.credit(0, 4, 1);
+        buyAll(m, 0, 3);
+        m.month();
+        same("0:1s1r4u1a", town(m, 0));
     }
 
     /** A credit that falls behind another one is paid in full just if the sun is enough for both. */
@@ -1102,6 +1180,12 @@ public final class PromisesTest {
         faultAt(8, "rain 0 1x");
         faultAt(9, "rain 0 1; rain 0 1");
         faultAt(19, "month;month;rain 0 month");
+        faultAt(5, "end 00 1");
+        faultAt(7, "end 0 11");
+        faultAt(8, "credit 00 1 1");
+        faultAt(6, "rain 00 1");
+        faultAt(6, "bail 00 1");
+        faultAt(5, "buy 00");
         faultAt(8, "buy 0;bux 1");
         faultAt(12, "rain 0 1;mon");
         faultAt(15, "treaty 9 9;buy x");
@@ -1255,6 +1339,8 @@ public final class PromisesTest {
         String picture = picture(m);
         same(1, m.save());
         same(8, m.account(15));
+        makeArrears(m, 3);
+        same(70, m.account(11));
         months(m, 6);
         m.treaty(3, 4, false);
         m.bail(1, 1);
