@@ -1,18 +1,5 @@
-import java.util.Objects;
-
 /** For each promise of the document: ordinary inputs, the edges that it names, and wrong inputs. */
-public final class PromisesTest {
-    private static final int NONE = WeatherMinistry.NONE;
-    private static final int BAD = WeatherMinistry.BAD;
-    private static final int STATE = WeatherMinistry.STATE;
-    private static final int FULL = WeatherMinistry.FULL;
-    private static final int REFUSED = WeatherMinistry.REFUSED;
-    private static final int NOTHING = WeatherMinistry.NOTHING;
-
-    private static int checks = 0;
-    private static int wrong = 0;
-    private static String part = "";
-
+public final class PromisesTest extends Checks {
     private PromisesTest() {
     }
 
@@ -50,64 +37,7 @@ public final class PromisesTest {
         reason();
         undo();
         saveAndRestore();
-        System.out.println(checks - wrong + " checks as due, " + wrong + " not as due");
-        if (wrong > 0) {
-            System.exit(1);
-        }
-    }
-
-    private static void same(Object want, Object got) {
-        checks++;
-        if (!Objects.equals(want, got)) {
-            wrong++;
-            int line = StackWalker.getInstance().walk(frames ->
-                    frames.skip(1).findFirst().get().getLineNumber());
-            System.out.println(part + ", line " + line + ": due is " + want + ", answered " + got);
-        }
-    }
-
-    private static WeatherMinistry fresh(String name) {
-        part = name;
-        return new WeatherMinistry();
-    }
-
-    private static void type(WeatherMinistry ministry, String text) {
-        for (char sign : text.toCharArray()) {
-            ministry.append(sign);
-        }
-    }
-
-    private static int read(WeatherMinistry ministry, String text) {
-        type(ministry, text);
-        return ministry.read();
-    }
-
-    private static String line(WeatherMinistry ministry, int length) {
-        StringBuilder line = new StringBuilder();
-        for (int i = 0; i < length; i++) {
-            line.append((char) ministry.written(i));
-        }
-        return line.toString();
-    }
-
-    private static String town(WeatherMinistry ministry, int town) {
-        return line(ministry, ministry.write(town));
-    }
-
-    private static String credits(WeatherMinistry ministry) {
-        return line(ministry, ministry.writeCredits());
-    }
-
-    private static void months(WeatherMinistry ministry, int months) {
-        for (int i = 0; i < months; i++) {
-            ministry.month();
-        }
-    }
-
-    private static void buyAll(WeatherMinistry ministry, int town, int umbrellas) {
-        for (int i = 0; i < umbrellas; i++) {
-            ministry.buy(town);
-        }
+        end();
     }
 
     /** The town takes 20 hours, spends all it can for umbrellas, and can't pay as a month goes by. */
@@ -117,16 +47,8 @@ public final class PromisesTest {
         ministry.month();
     }
 
-    private static void refused(WeatherMinistry ministry, int answer, int reason, int detail) {
-        same(REFUSED, answer);
-        same(reason, ministry.reason(0, false));
-        same(detail, ministry.reason(0, true));
-        same(NOTHING, ministry.reason(1, false));
-        same(NOTHING, ministry.reason(1, true));
-    }
-
     private static void constants() {
-        part = "constants";
+        fresh("constants");
         same(-1, NONE);
         same(-2, BAD);
         same(-3, STATE);
@@ -660,42 +582,30 @@ public final class PromisesTest {
         }
     }
 
-    private static void would() {
-        WeatherMinistry m = fresh("17 would");
+    private static WeatherMinistry readyForWould(int months) {
+        WeatherMinistry m = fresh("17 would, in " + months + " months");
         m.treaty(2, 3, true);
         m.credit(2, 20, 3);
         m.credit(3, 5, 2);
         buyAll(m, 2, 6);
         m.rain(3, 11);
-        int[][][] told = new int[25][5][4];
+        return m;
+    }
+
+    private static void would() {
         for (int months = 0; months < 25; months++) {
+            WeatherMinistry asked = readyForWould(months);
+            WeatherMinistry lived = readyForWould(months);
+            months(lived, months);
             for (int town = 0; town < 5; town++) {
                 for (int what = 0; what < 4; what++) {
-                    told[months][town][what] = m.would(town, months, what);
+                    same(lived.townOf(town, what), asked.would(town, months, what));
                 }
             }
-            if (months % 4 == 3) {
-                m = fresh("17 would");
-                m.treaty(2, 3, true);
-                m.credit(2, 20, 3);
-                m.credit(3, 5, 2);
-                buyAll(m, 2, 6);
-                m.rain(3, 11);
-            }
+            same(picture(readyForWould(months)), picture(asked));
+            same(8, asked.account(15));
         }
-        same(0, m.account(0));
-        same(2, m.account(1));
-        int line = m.account(15);
-        for (int months = 0; months < 25; months++) {
-            for (int town = 0; town < 5; town++) {
-                String text = town + ":" + told[months][town][0] + "s" + told[months][town][1] + "r"
-                        + told[months][town][2] + "u"
-                        + (told[months][town][3] > 0 ? told[months][town][3] + "a" : "");
-                same(text, town(m, town));
-            }
-            m.month();
-        }
-        same(8, line);
+        WeatherMinistry m = fresh("17 would");
         same(NONE, m.would(5, -1, -1));
         same(NONE, m.would(-1, 0, 0));
         same(BAD, m.would(0, -1, 0));
@@ -953,7 +863,7 @@ public final class PromisesTest {
         same(7, m.writeCredits());
         same("4*20@10", line(m, 7));
         m.credit(0, 1, 6);
-        same("4*20@10 0*1@15", credits(m));
+        same("4*20@10 0*1@15", line(m, m.writeCredits()));
         same((int) '*', m.written(1));
         same((int) ' ', m.written(7));
         same((int) '5', m.written(13));
@@ -964,7 +874,7 @@ public final class PromisesTest {
         m.undo();
         same("4*20@10 0*1@15", line(m, 14));
         m.repay(0);
-        same("0*1@15", credits(m));
+        same("0*1@15", line(m, m.writeCredits()));
         same(NONE, m.written(6));
         m.write(1);
         same((int) ':', m.written(1));
@@ -1069,24 +979,6 @@ public final class PromisesTest {
         outOfRange("month;credit 0 20 1;month;rain 1 2;buy 9;buy 9", 4);
     }
 
-    private static void readRefused(WeatherMinistry m, String text, int command, int reason,
-            int detail) {
-        part = "29 and 31 read, refused: " + text;
-        int changes = m.account(15);
-        int sun = m.account(3);
-        int rain = m.account(4);
-        same(REFUSED, read(m, text));
-        same(9, m.reason(0, false));
-        same(command, m.reason(0, true));
-        same(reason, m.reason(1, false));
-        same(detail, m.reason(1, true));
-        same(0, m.account(14));
-        same(changes, m.account(15));
-        same(sun, m.account(3));
-        same(rain, m.account(4));
-        same(STATE, m.fault());
-    }
-
     private static void readReasons() {
         WeatherMinistry m = fresh("29 read, reasons");
         readRefused(m, "rain 0 3;treaty 2 2", 1, 8, 2);
@@ -1112,17 +1004,6 @@ public final class PromisesTest {
         readRefused(m, "credit 1 1 1;credit 1 1 1", 1, 1, 8);
         readRefused(m, "credit 3 1 1", 0, 2, 17);
         same(1, m.account(0));
-    }
-
-    private static void faultAt(int position, String text) {
-        WeatherMinistry m = fresh("29 and 30 a fault in: " + text);
-        m.treaty(0, 0, true);
-        same(BAD, read(m, text));
-        same(position, m.fault());
-        same(0, m.account(14));
-        same(0, m.account(15));
-        same(0, m.account(0));
-        same(8, m.reason(0, false));
     }
 
     private static void fault() {
@@ -1239,29 +1120,22 @@ public final class PromisesTest {
         refused(m, m.bail(0, 1), 5, 2);
     }
 
-    private static String picture(WeatherMinistry m) {
-        StringBuilder all = new StringBuilder();
-        for (int town = 0; town < 5; town++) {
-            all.append(town(m, town)).append(' ');
-            for (int other = 0; other < 5; other++) {
-                all.append(m.far(town, other)).append(' ');
-            }
+    private static final int[] ELEVEN_KINDS = {0, 1, 2, 3, 4, 5, 6, 7, 5, 0, 2};
+
+    /** What a ministry looks like after so many changes, asked of an object of its own. */
+    private static String pictureAfter(int changes) {
+        WeatherMinistry m = new WeatherMinistry();
+        for (int i = 0; i < changes; i++) {
+            change(m, ELEVEN_KINDS[i]);
         }
-        for (int what = 0; what < 14; what++) {
-            all.append(m.account(what)).append(' ');
-        }
-        return all.append(credits(m)).append(m.isCounted()).toString();
+        return picture(m);
     }
 
     private static void undo() {
         WeatherMinistry m = fresh("32 undo");
         same(STATE, m.undo());
-        String[] pictures = new String[12];
-        int[] kinds = {0, 1, 2, 3, 4, 5, 6, 7, 5, 0, 2};
-        for (int i = 0; i < kinds.length; i++) {
-            pictures[i] = picture(m);
-            change(m, kinds[i]);
-            same(Math.min(8, i + 1), m.account(15));
+        for (int i = 0; i < ELEVEN_KINDS.length; i++) {
+            same(Math.min(8, i + 1), change(m, ELEVEN_KINDS[i]));
         }
         m.buy(9);
         m.treaty(0, 0, true);
@@ -1269,19 +1143,28 @@ public final class PromisesTest {
         same(8, m.account(15));
         for (int i = 7; i >= 4; i--) {
             same(i, m.undo());
-            same(pictures[3 + i], picture(m));
             same(i, m.account(15));
         }
-        pictures[7] = picture(m);
+        same(pictureAfter(7), picture(m));
         same(5, change(m, 7));
         same(4, m.undo());
-        same(pictures[7], picture(m));
+        same(pictureAfter(7), picture(m));
         for (int i = 3; i >= 0; i--) {
             same(i, m.undo());
-            same(pictures[3 + i], picture(m));
         }
+        same(pictureAfter(3), picture(m));
         same(STATE, m.undo());
-        same(pictures[3], picture(m));
+        same(pictureAfter(3), picture(m));
+        for (int changes = 4; changes <= 11; changes++) {
+            WeatherMinistry other = fresh("32 undo of change " + changes);
+            for (int i = 0; i < ELEVEN_KINDS.length; i++) {
+                change(other, ELEVEN_KINDS[i]);
+            }
+            for (int i = ELEVEN_KINDS.length; i >= changes; i--) {
+                other.undo();
+            }
+            same(pictureAfter(changes - 1), picture(other));
+        }
         WeatherMinistry idle = fresh("32 undo of what changes nothing");
         for (int i = 0; i < 3; i++) {
             idle.rain(0, 20);
