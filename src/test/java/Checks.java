@@ -83,7 +83,7 @@ abstract class Checks {
         return line.toString();
     }
 
-    /** Everything that can be undone and saved, with some 65 calls. */
+    /** All that can be undone and saved, by some 65 calls; what was spent shows by isCounted. */
     static String picture(WeatherMinistry ministry) {
         StringBuilder all = new StringBuilder();
         for (int town = 0; town < 5; town++) {
@@ -96,7 +96,8 @@ abstract class Checks {
         for (int what = 7; what < 14; what++) {
             all.append(' ').append(ministry.account(what));
         }
-        return all.append(' ').append(credits(ministry)).toString();
+        all.append(' ').append(credits(ministry));
+        return all.append(' ').append(ministry.isCounted()).toString();
     }
 
     /** What is neither undone nor saved, but for the line. */
@@ -148,6 +149,13 @@ abstract class Checks {
     static void bringToArrears(WeatherMinistry ministry, int town, int arrears) {
         bringToLack(ministry, town, arrears + 1);
         ministry.month();
+    }
+
+    /** The towns stand in this order, from the first place on. */
+    static void order(WeatherMinistry ministry, int... towns) {
+        for (int place = 0; place < towns.length; place++) {
+            same(towns[place], ministry.ranked(place));
+        }
     }
 
     /** Is refused for a reason, with this detail and with nothing behind it. */

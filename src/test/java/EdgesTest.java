@@ -383,6 +383,10 @@ public final class EdgesTest extends Checks {
         for (int what = 0; what < due.length; what++) {
             same(due[what], m.townOf(2, what));
         }
+        m.repay(1);
+        same(1, m.townOf(2, 4));
+        m.repay(0);
+        same(0, m.townOf(2, 4));
     }
 
     /** Promise 9: "how many towns treaties lead to from it, over one or several, itself left out". */
@@ -836,12 +840,6 @@ public final class EdgesTest extends Checks {
         order(less, 1, 4, 2, 3, 0);
     }
 
-    private static void order(WeatherMinistry m, int... towns) {
-        for (int place = 0; place < towns.length; place++) {
-            same(towns[place], m.ranked(place));
-        }
-    }
-
     /** Promise 20: "NONE if there is no such place". */
     private static void nextOfNoPlace() {
         WeatherMinistry m = fresh("20 no such place");
@@ -1060,6 +1058,7 @@ public final class EdgesTest extends Checks {
     private static void inputs() {
         appendCodes();
         appendUpToSixty();
+        readReturnsTheCommands();
         readEmptiesTheInput();
         faultKeptLast();
         reasonDepths();
@@ -1100,6 +1099,26 @@ public final class EdgesTest extends Checks {
         same(1, m.append('m'));
     }
 
+    /** Promise 29: "the number of commands; BAD, where the fault position is kept; REFUSED for 9". */
+    private static void readReturnsTheCommands() {
+        WeatherMinistry m = fresh("29 what is returned");
+        same(1, read(m, "month"));
+        same(10, read(m, "month;month;month;month;month;month;month;month;month;month"));
+        same(11, m.account(0));
+        same(2, m.account(15));
+        same(STATE, m.fault());
+        same(STATE, m.reason(0, false));
+        same(BAD, read(m, "month;mouth"));
+        same(8, m.fault());
+        same(STATE, m.reason(0, false));
+        same(REFUSED, read(m, "month;end 2 1"));
+        same(8, m.fault());
+        same(9, m.reason(0, false));
+        same(1, m.reason(0, true));
+        same(11, m.account(0));
+        same(2, m.account(15));
+    }
+
     /** Promise 29: "The input is empty then, whatever is returned." */
     private static void readEmptiesTheInput() {
         WeatherMinistry m = fresh("29 the input is empty then");
@@ -1119,7 +1138,7 @@ public final class EdgesTest extends Checks {
         same(2, m.account(0));
     }
 
-    /** Promise 30: "the fault position that was kept last; STATE if none was kept". */
+    /** Promise 30: "the fault position that was kept last", "STATE if none was kept". */
     private static void faultKeptLast() {
         WeatherMinistry m = fresh("30 the fault that was kept last");
         same(STATE, m.fault());
@@ -1169,6 +1188,7 @@ public final class EdgesTest extends Checks {
     private static void backAgain() {
         undoOfNothing();
         undoCounts();
+        everythingIsUndoneAndRestored();
         saveReturnsTheMonth();
         saveInPlaceOfWhatWasSaved();
         restoreOfNothing();
@@ -1203,6 +1223,36 @@ public final class EdgesTest extends Checks {
         }
         same(STATE, m.undo());
         same(12, m.account(0));
+    }
+
+    /** A month changes each account of it, and a town buys: all of this is as it was again. */
+    private static void everythingIsUndoneAndRestored() {
+        WeatherMinistry m = fresh("32 and 34 everything is undone and restored");
+        bringToArrears(m, 0, 17);
+        m.bail(0, 5);
+        m.credit(1, 20, 1);
+        buyAll(m, 1, 7);
+        m.credit(2, 1, 1);
+        m.save();
+        String before = picture(m);
+        int[] accounts = new int[14];
+        for (int what = 7; what < 14; what++) {
+            accounts[what] = m.account(what);
+        }
+        same(1, m.month());
+        int[] more = {0, 0, 0, 0, 0, 0, 0, 10, 4, 1, 4, 34, 2, 1};
+        for (int what = 7; what < 14; what++) {
+            same(accounts[what] + more[what], m.account(what));
+        }
+        same(7, m.undo());
+        same(before, picture(m));
+        m.buy(2);
+        same(7, m.undo());
+        same(before, picture(m));
+        m.month();
+        m.buy(2);
+        m.restore();
+        same(before, picture(m));
     }
 
     /** Promise 33: "Returns the month", and changes nothing. */

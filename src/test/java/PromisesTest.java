@@ -738,12 +738,6 @@ public final class PromisesTest extends Checks {
         order(even, 1, 3, 4, 0, 2);
     }
 
-    private static void order(WeatherMinistry m, int... towns) {
-        for (int place = 0; place < towns.length; place++) {
-            same(towns[place], m.ranked(place));
-        }
-    }
-
     private static void next() {
         WeatherMinistry m = fresh("20 next");
         same(NONE, m.next(0));
